@@ -15,6 +15,21 @@ final class Model {
             }
             return kind == 1 ? "10" + number(distance) + number(length - 1) : "11" + number(length);
         }
+
+        int width() {
+            return kind == 0 ? 9 : kind == 1 ? 2 + wide(distance) + wide(length - 1) : 2 + wide(length);
+        }
+
+        private static int wide(int n) {
+            return 63 - 2 * Integer.numberOfLeadingZeros(n);
+        }
+
+        /** Whether a plan with this token comes ahead of one with the other token at its place. */
+        boolean ahead(Token other) {
+            return kind != other.kind ? kind < other.kind
+                    : length != other.length ? length > other.length
+                    : distance < other.distance;
+        }
     }
 
     final List<Integer> text = new ArrayList<>();
@@ -167,32 +182,42 @@ final class Model {
 
     // ---- plans
 
-    int costOf(List<Token> tokens) {
-        int sum = 0;
-        for (Token token : tokens) {
-            sum += token.bits(0).length() + price;
-        }
-        return sum;
+    /** A plan from some place on: its first token and the plan behind it; null is the empty one. */
+    record Way(Token first, Way rest, int cost, int size) {
     }
 
-    /** Less than 0 if the first plan is the better one. */
-    int compare(List<Token> a, List<Token> b) {
-        if (costOf(a) != costOf(b)) {
-            return Integer.compare(costOf(a), costOf(b));
+    private Way way(Token first, Way rest) {
+        int cost = first.width() + price + (rest == null ? 0 : rest.cost);
+        return new Way(first, rest, cost, 1 + (rest == null ? 0 : rest.size));
+    }
+
+    private static List<Token> tokensOf(Way way) {
+        List<Token> all = new ArrayList<>();
+        for (Way left = way; left != null; left = left.rest) {
+            all.add(left.first);
         }
-        if (a.size() != b.size()) {
-            return Integer.compare(a.size(), b.size());
+        return all;
+    }
+
+    int costOf(List<Token> tokens) {
+        return tokens.stream().mapToInt(t -> t.width() + price).sum();
+    }
+
+    /** Whether the first plan, of the same text, is the better one. */
+    private static boolean better(Way a, Way b) {
+        if (a.cost != b.cost) {
+            return a.cost < b.cost;
         }
-        for (int i = 0; i < a.size(); i++) {
-            Token p = a.get(i);
-            Token q = b.get(i);
-            if (!p.equals(q)) {
-                return p.kind != q.kind ? Integer.compare(p.kind, q.kind)
-                        : p.length != q.length ? Integer.compare(q.length, p.length)
-                        : Integer.compare(p.distance, q.distance);
-            }
+        if (a.size != b.size) {
+            return a.size < b.size;
         }
-        return 0;
+        Way p = a;
+        Way q = b;
+        while (p != null && p.first.equals(q.first)) {
+            p = p.rest;
+            q = q.rest;
+        }
+        return p != null && p.first.ahead(q.first);
     }
 
     List<Token> tokensAt(int place, int present) {
@@ -216,22 +241,17 @@ final class Model {
     }
 
     int best() {
-        plan = bestFrom(0, 0, new HashMap<>());
+        plan = tokensOf(bestFrom(0, 0, new HashMap<>()));
         return costOf(plan);
     }
 
-    private List<Token> bestFrom(int place, int present, Map<Integer, List<Token>> known) {
-        if (place == text.size()) {
-            return List.of();
-        }
+    private Way bestFrom(int place, int present, Map<Integer, Way> known) {
         int key = place * 100 + present;
-        if (!known.containsKey(key)) {
-            List<Token> bestWay = null;
+        if (place < text.size() && !known.containsKey(key)) {
+            Way bestWay = null;
             for (Token token : tokensAt(place, present)) {
-                List<Token> way = new ArrayList<>();
-                way.add(token);
-                way.addAll(bestFrom(place + token.length, presentAfter(token, present), known));
-                if (bestWay == null || compare(way, bestWay) < 0) {
+                Way way = way(token, bestFrom(place + token.length, presentAfter(token, present), known));
+                if (bestWay == null || better(way, bestWay)) {
                     bestWay = way;
                 }
             }
@@ -242,25 +262,27 @@ final class Model {
 
     /** The best of all plans, each of them made: for short texts, as a check of bestFrom itself. */
     List<Token> bestOfAll() {
-        List<List<Token>> champion = new ArrayList<>();
-        tryAll(0, 0, new ArrayList<>(), champion);
-        return champion.get(0);
+        Way bestWay = null;
+        for (Way way : allFrom(0, 0)) {
+            if (bestWay == null || way != null && better(way, bestWay)) {
+                bestWay = way;
+            }
+        }
+        return tokensOf(bestWay);
     }
 
-    private void tryAll(int place, int present, List<Token> soFar, List<List<Token>> champion) {
+    private List<Way> allFrom(int place, int present) {
+        List<Way> all = new ArrayList<>();
         if (place == text.size()) {
-            if (champion.isEmpty()) {
-                champion.add(List.copyOf(soFar));
-            } else if (compare(soFar, champion.get(0)) < 0) {
-                champion.set(0, List.copyOf(soFar));
-            }
-            return;
+            all.add(null);
+            return all;
         }
         for (Token token : tokensAt(place, present)) {
-            soFar.add(token);
-            tryAll(place + token.length, presentAfter(token, present), soFar, champion);
-            soFar.remove(soFar.size() - 1);
+            for (Way rest : allFrom(place + token.length, presentAfter(token, present))) {
+                all.add(way(token, rest));
+            }
         }
+        return all;
     }
 
     private Token greedyToken(int place, int present) {
