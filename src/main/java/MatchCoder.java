@@ -171,6 +171,7 @@ public final class MatchCoder {
     // ---- plans
 
     public int best() {
+        bestWay.weighStates();
         bestWay.choose(plan);
         return costOfPlan();
     }
@@ -601,8 +602,8 @@ public final class MatchCoder {
             this.settings = settings;
         }
 
+        /** The states must have been weighed for the present text and settings. */
         void choose(Plan plan) {
-            weighStates();
             plan.begin();
             int place = 0;
             int present = 0;
@@ -624,7 +625,7 @@ public final class MatchCoder {
         }
 
         /** Only distances up to the place and the window are weighed: no other can be present. */
-        private void weighStates() {
+        void weighStates() {
             int end = text.count;
             for (int present = 0; present < STATES; present++) {
                 weights[end * STATES + present] = 0;
@@ -826,7 +827,7 @@ public final class MatchCoder {
 
         /** The next bit; -1 if there is none left. */
         private int takeBit(Bits bits) {
-            if (!bits.has(next)) {
+            if (next >= bits.count) {
                 return -1;
             }
             next++;

@@ -14,6 +14,7 @@ public final class PlansTest {
         tiesOfBest();
         greedyTakesTheLongest();
         lazyWaits();
+        literalsAlone();
         questions();
         CHECK.end();
     }
@@ -142,6 +143,26 @@ public final class PlansTest {
         MatchCoder y = coder("abcQbcdRabcd");
         y.lazy();
         CHECK.same("the lazy plan where waiting gains nothing", tokens(y), "L L L L L L L L M3,8 L");
+    }
+
+    /** The longest plan and the most bits that there are. */
+    private static void literalsAlone() {
+        MatchCoder x = new MatchCoder();
+        for (int value = 192; value < 256; value++) {
+            x.feed(value, 1);
+        }
+        x.setPrice(30);
+        for (int way = 0; way < 3; way++) {
+            int cost = way == 0 ? x.best() : way == 1 ? x.greedy() : x.lazy();
+            CHECK.same("the cost of 64 different bytes", cost, 64 * 39);
+            CHECK.same("tokenCount() of 64 different bytes", x.tokenCount(), 64);
+            CHECK.same("made(0) of 64 different bytes", x.made(0), 64);
+            CHECK.same("start(63) of 64 different bytes", x.start(63), 63);
+            CHECK.same("ratio() of 64 different bytes", x.ratio(), 1.125);
+            CHECK.same("write() of 64 different bytes", x.write(), 576);
+            CHECK.same("read() of 64 different bytes", x.read(), 0);
+            CHECK.same("differences() of 64 different bytes", x.differences(), 0);
+        }
     }
 
     private static void questions() {
