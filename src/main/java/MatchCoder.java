@@ -430,12 +430,12 @@ public final class MatchCoder {
     private static final class Code {
         static final int LITERAL_BITS = 9;
 
+        /** Asked so often by the best way that three comparisons are better than a loop. */
         static int numberBits(int n) {
-            int behindHighest = 0;
-            while (behindHighest < MOST_ZEROS && (n >> (behindHighest + 1)) > 0) {
-                behindHighest++;
+            if (n < 16) {
+                return n < 4 ? (n < 2 ? 1 : 3) : (n < 8 ? 5 : 7);
             }
-            return 2 * behindHighest + 1;
+            return n < 64 ? (n < 32 ? 9 : 11) : (n < 128 ? 13 : 15);
         }
 
         static int matchBits(int distance, int length) {
