@@ -1,7 +1,18 @@
 import java.util.concurrent.Callable;
+import java.util.function.Function;
+import java.util.function.Supplier;
 
 /** Counts and prints the answers that are not the ones that are due. */
 final class Check {
+    static final Class<IllegalArgumentException> ARGUMENT = IllegalArgumentException.class;
+    static final Class<IllegalStateException> STATE = IllegalStateException.class;
+    static final Class<IndexOutOfBoundsException> INDEX = IndexOutOfBoundsException.class;
+
+    /** A call whose argument a range is promised for. */
+    interface NumberCall {
+        Object of(MatchCoder x, int number);
+    }
+
     private final String name;
     private int looked = 0;
     private int wrong = 0;
@@ -20,19 +31,34 @@ final class Check {
         }
     }
 
-    void fails(String what, Class<? extends Exception> due, Callable<?> call) {
-        same(what, outcome(call), thrown(due));
+    /** The call throws what is due, and leaves all that the face tells of the object as it was. */
+    void refuses(String what, Supplier<MatchCoder> start, Class<? extends Exception> due,
+            Function<MatchCoder, ?> call) {
+        for (State.Part part : State.PARTS) {
+            MatchCoder called = start.get();
+            same(what, outcome(() -> call.apply(called)), thrown(due));
+            same(what + ", then " + part.name(), part.of(called), part.of(start.get()));
+        }
     }
 
-    /** As fails, and the call must leave the object's digest and plan as they were. */
-    void refuses(String what, MatchCoder x, Class<? extends Exception> due, Callable<?> call) {
-        long digest = x.digest();
-        boolean planned = x.hasPlan();
-        int errorPosition = x.errorPosition();
-        fails(what, due, call);
-        same(what + " leaves the digest", x.digest(), digest);
-        same(what + " leaves the plan", x.hasPlan(), planned);
-        same(what + " leaves the error's position", x.errorPosition(), errorPosition);
+    void takes(String what, Supplier<MatchCoder> start, Function<MatchCoder, ?> call) {
+        Object answer = outcome(() -> call.apply(start.get()));
+        same(what + " is taken", answer instanceof String ? answer : "taken", "taken");
+    }
+
+    /**
+     * Both ends of a range are taken. What lies beyond them is refused: the next numbers, those whose
+     * lower eight or sixteen bits alone would be in the range, and the ends of int.
+     */
+    void range(String what, Supplier<MatchCoder> start, int least, int greatest,
+            Class<? extends Exception> due, NumberCall call) {
+        for (int number : new int[] {least, greatest}) {
+            takes(what + " of " + number, start, x -> call.of(x, number));
+        }
+        for (int number : new int[] {least - 1, greatest + 1, least + 256 * (1 + greatest / 256),
+                least + 65536, greatest - 65536, Integer.MIN_VALUE, Integer.MAX_VALUE}) {
+            refuses(what + " of " + number, start, due, x -> call.of(x, number));
+        }
     }
 
     /** What the call answers, or the name of the exception that it throws. */
@@ -46,6 +72,10 @@ final class Check {
 
     private static String thrown(Class<? extends Exception> kind) {
         return "throws." + kind.getSimpleName();
+    }
+
+    int looked() {
+        return looked;
     }
 
     boolean good() {

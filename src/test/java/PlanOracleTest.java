@@ -49,15 +49,21 @@ public final class PlanOracleTest {
             m.greatest = numbers.below(3) == 0 ? 64 : numbers.between(m.least, 20);
             m.window = numbers.below(3) == 0 ? 64 : numbers.between(1, 64);
             m.price = numbers.below(3) == 0 ? 0 : numbers.between(0, 30);
-            MatchCoder x = coderLike(m);
-            String what = "text " + seed;
-            CHECK.same("best() of " + what, x.best(), m.best());
-            CHECK.same("the best plan of " + what, tokensOf(x), m.plan);
-            CHECK.same("greedy() of " + what, x.greedy(), m.quick(false));
-            CHECK.same("the greedy plan of " + what, tokensOf(x), m.plan);
-            CHECK.same("lazy() of " + what, x.lazy(), m.quick(true));
-            CHECK.same("the lazy plan of " + what, tokensOf(x), m.plan);
+            for (Coders.Way way : Coders.Way.values()) {
+                compareMixed(way, m, "text " + seed);
+            }
         }
+    }
+
+    /** Also what is written is read as the text again. */
+    private static void compareMixed(Coders.Way way, Model m, String what) {
+        MatchCoder x = coderLike(m);
+        int cost = way == Coders.Way.BEST ? m.best() : m.quick(way == Coders.Way.LAZY);
+        CHECK.same(way + " of " + what, way.choose(x), cost);
+        CHECK.same("the plan by " + way + " of " + what, tokensOf(x), m.plan);
+        CHECK.same("write() of " + what, x.write(), cost - m.price * m.plan.size());
+        CHECK.same("read() of " + what, x.read(), 0);
+        CHECK.same("differences() of " + what, x.differences(), 0);
     }
 
     /** Single bytes between copies from further ahead, so that AGAIN is often worth its bits. */
