@@ -163,6 +163,10 @@ public final class PlansTest {
         best(c, THREE, 2, 64, 34, THREE_BEST);
         best(c, "aaaaa", 2, 2, 17, "L M2,1 M2,1");
         best(c, "a".repeat(64), 3, 64, 9 + 2 + 1 + 11, "L M63,1");
+        best(c, "abaabaaa", 2, 2, 40, "L L L M2,3 A1,3 M2,1");
+        best(c, "abbbaaab", 2, 64, 42, "L L M2,1 L A1,1 M2,6");
+        best(c, "aaaaaa", 2, 3, 18, "L M2,1 A3,1");
+        best(c, "aaaaaabb", 2, 3, 30, "L M2,1 A3,1 L A1,1");
         MatchCoder x = Coders.text("aaaaaba", 2, 64);
         c.same("with the price 0", Coders.tokensOf(Coders.Way.BEST, x), "L M2,1 M2,2 L A1,2");
         x.setPrice(30);
@@ -272,16 +276,24 @@ public final class PlansTest {
         lazy(c, "aaaabbaa", "L M3,1 L A1,1 M2,4");
     }
 
-    /** Each place is looked at anew, also the one behind such a literal; the last place is too. */
+    /** Each place is looked at anew, also the one behind such a literal; what is farther behind is not. */
     private static void lazyWaits(Check c) {
         lazy(c, "aabaaaa", "L L L L M3,1");
         lazy(c, "abaaaba", "L L L L M3,4");
         lazy(c, "aabaaaaba", "L L L L L M4,5");
         lazy(c, "abbababba", "L L L L L M4,5");
         lazy(c, "abcab", "L L L M2,3");
+        lazy(c, "aaababbbb", "L M2,1 L M2,2 M3,1");
     }
 
+    /** A distance of one more, beyond the window, would be the way to a longer AGAIN. */
     private static void lazyKeepsTheDistance(Check c) {
+        MatchCoder x = Coders.text("abbbaababba", 2, 64);
+        x.setWindow(5);
+        c.same("LAZY in the window 5", Coders.tokensOf(Coders.Way.LAZY, x), "L L M2,1 L M2,5 M2,2 M2,3");
+        MatchCoder y = Coders.text("abaabaaaba", 2, 3);
+        y.setWindow(3);
+        c.same("LAZY in the window 3", Coders.tokensOf(Coders.Way.LAZY, y), "L L L M3,3 M2,1 L L");
         lazy(c, THREE, THREE_LAZY);
         lazy(c, "aabbbaaaa", "L L L M2,1 L A3,1");
         lazy(c, "abaabbabb", "L L L M2,3 L A3,3");
@@ -399,6 +411,24 @@ public final class PlansTest {
         MatchCoder full = Coders.full();
         way.choose(full);
         c.same("tokenCount() of a full text", full.tokenCount(), 64);
+        ofTheTextAsItIs(c, way);
+    }
+
+    /** Nothing of a longer text or of other settings is left from an earlier choice. */
+    private static void ofTheTextAsItIs(Check c, Coders.Way way) {
+        String text = "abaabaaabbbaaababbabab";
+        for (int size = 0; size <= text.length(); size++) {
+            MatchCoder x = Coders.text(text);
+            x.setPrice(30);
+            way.choose(x);
+            x.cut(text.length() - size);
+            x.setLengths(2, 4);
+            x.setPrice(0);
+            x.setWindow(9);
+            MatchCoder anew = Coders.text(text.substring(0, size), 2, 4);
+            anew.setWindow(9);
+            c.same(way + " of what is left", Coders.tokensOf(way, x), Coders.tokensOf(way, anew));
+        }
     }
 
     private static void returnsCosts(Check c, Coders.Way way, int cost) {
