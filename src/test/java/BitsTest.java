@@ -15,11 +15,13 @@ public final class BitsTest {
                 .holds("Returns the number of bits.", BitsTest::bitCount)
                 .under("Promise 28: bit")
                 .holds("- `index`: the number of a bit, from 0 Returns the bit.", BitsTest::bitReturns)
-                .holds("Throws `IndexOutOfBoundsException` if there is no such bit", BitsTest::bitThrows)
+                .holds("Throws `IndexOutOfBoundsException` if there is no such bit",
+                        c -> noSuchBit(c, "bit", MatchCoder::bit))
                 .under("Promise 29: flip")
                 .holds("Turns a bit into the other one.", BitsTest::flipTurns)
                 .holds("Returns the bit before.", BitsTest::flipReturns)
-                .holds("Throws `IndexOutOfBoundsException` if there is no such bit", BitsTest::flipThrows)
+                .holds("Throws `IndexOutOfBoundsException` if there is no such bit",
+                        c -> noSuchBit(c, "flip", MatchCoder::flip))
                 .under("Promise 30: appendBits")
                 .holds("Appends up to 16 bits.", BitsTest::appends)
                 .holds("- `bits`: the bits: the lowest one of this number is the last one", BitsTest::appendsInOrder)
@@ -130,14 +132,14 @@ public final class BitsTest {
         c.same("bit(799) of 800", Coders.bits("0".repeat(799) + "1").bit(799), 1);
     }
 
-    private static void bitThrows(Check c) {
-        c.refuses("bit(0) of none", MatchCoder::new, Check.INDEX, x -> x.bit(0));
-        c.range("bit of 1", () -> Coders.bits("1"), 0, 0, Check.INDEX, MatchCoder::bit);
-        c.range("bit of 96", Coders::middle, 0, 95, Check.INDEX, MatchCoder::bit);
-        c.range("bit of 800", Coders::full, 0, 799, Check.INDEX, MatchCoder::bit);
+    private static void noSuchBit(Check c, String name, Check.NumberCall call) {
+        c.refuses(name + "(0) of none", MatchCoder::new, Check.INDEX, x -> call.of(x, 0));
+        c.range(name + " of 1", () -> Coders.bits("1"), 0, 0, Check.INDEX, call);
+        c.range(name + " of 96", Coders::middle, 0, 95, Check.INDEX, call);
+        c.range(name + " of 800", Coders::full, 0, 799, Check.INDEX, call);
         MatchCoder y = Coders.full();
         y.cutBits(1);
-        c.same("bit(799) behind cutBits", Check.outcome(() -> y.bit(799)), "throws.IndexOutOfBoundsException");
+        c.same(name + "(799) behind cutBits", Check.outcome(() -> call.of(y, 799)), "throws.IndexOutOfBoundsException");
     }
 
     private static void flipTurns(Check c) {
@@ -163,16 +165,6 @@ public final class BitsTest {
         c.same("flip(1)", x.flip(1), 0);
         c.same("flip(1) again", x.flip(1), 1);
         c.same("flip(799) of 800", Coders.bits("0".repeat(799) + "1").flip(799), 1);
-    }
-
-    private static void flipThrows(Check c) {
-        c.refuses("flip(0) of none", MatchCoder::new, Check.INDEX, x -> x.flip(0));
-        c.range("flip of 1", () -> Coders.bits("1"), 0, 0, Check.INDEX, MatchCoder::flip);
-        c.range("flip of 96", Coders::middle, 0, 95, Check.INDEX, MatchCoder::flip);
-        c.range("flip of 800", Coders::full, 0, 799, Check.INDEX, MatchCoder::flip);
-        MatchCoder y = Coders.full();
-        y.cutBits(1);
-        c.same("flip(799) behind cutBits", Check.outcome(() -> y.flip(799)), "throws.IndexOutOfBoundsException");
     }
 
     private static void appends(Check c) {

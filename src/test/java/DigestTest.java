@@ -36,21 +36,25 @@ public final class DigestTest {
                 ((((((107L * 31) * 31 + 64) * 31 + 3) * 31 + 64) * 31) * 31) * 31);
     }
 
+    /** Wrapped at the end alone, it is the same; some of them are negative. */
     private static void wrapsAround(Check c) {
-        MatchCoder x = Coders.filled(255, 64);
-        int[] numbers = new int[71];
-        numbers[0] = 64;
-        Arrays.fill(numbers, 1, 65, 255);
-        numbers[65] = 64;
-        numbers[66] = 3;
-        numbers[67] = 64;
-        c.same("digest() of a full text", x.digest(), mixed(numbers));
-        BigInteger d = BigInteger.valueOf(107);
-        for (int number : numbers) {
-            d = d.multiply(BigInteger.valueOf(31)).add(BigInteger.valueOf(number));
+        int negative = 0;
+        for (int value = 0; value <= 255; value++) {
+            int[] numbers = new int[71];
+            numbers[0] = 64;
+            Arrays.fill(numbers, 1, 65, value);
+            numbers[65] = 64;
+            numbers[66] = 3;
+            numbers[67] = 64;
+            BigInteger d = BigInteger.valueOf(107);
+            for (int number : numbers) {
+                d = d.multiply(BigInteger.valueOf(31)).add(BigInteger.valueOf(number));
+            }
+            c.same("digest() of 64 bytes " + value, Coders.filled(value, 64).digest(), d.longValue());
+            c.same("whether it is more than 64 bits", d.bitLength() > 64, true);
+            negative += d.longValue() < 0 ? 1 : 0;
         }
-        c.same("the same, wrapped at the end", x.digest(), d.longValue());
-        c.same("whether it is more than 64 bits", d.bitLength() > 64, true);
+        c.same("whether some are negative, and some are not", negative > 0 && negative < 256, true);
     }
 
     private static void ofTheText(Check c) {

@@ -46,7 +46,7 @@ public final class DocumentTest {
         CHECK.end();
     }
 
-    private static List<Sentences> all() {
+    static List<Sentences> all() {
         return List.of(EveryMethodTest.sentences(), TextTest.sentences(), SettingsTest.sentences(), TokensTest.sentences(),
                 MatchesTest.sentences(), PlansTest.sentences(), BitsTest.sentences(), ReadingTest.sentences(),
                 DigestTest.sentences());

@@ -132,7 +132,8 @@ public final class EveryMethodTest {
                 argument("feed(1, 0)", x -> x.feed(1L, 0)), argument("feed(1, 9)", x -> x.feed(1L, 9)),
                 argument("fill(256, 1)", x -> x.fill(256, 1)), argument("fill(-1, 64)", x -> x.fill(-1, 64)),
                 argument("fill(1, 65)", x -> x.fill(1, 65)), argument("fill(1, 0)", x -> x.fill(1, 0)),
-                argument("appendBits(1, 17)", x -> x.appendBits(1, 17)), argument("appendBits(1, 0)", x -> x.appendBits(1, 0)),
+                argument("appendBits(1, 17)", x -> x.appendBits(1, 17)),
+                argument("appendBits(1, 0)", x -> x.appendBits(1, 0)),
                 index("set(64, 256)", x -> x.set(64, 256)), index("set(-1, -1)", x -> x.set(-1, -1)),
                 index("common(64, 0)", x -> x.common(64, 0)), index("common(64, 65)", x -> x.common(64, 65)),
                 index("common(-1, 1)", x -> x.common(-1, 1)), index("common(-1, -1)", x -> x.common(-1, -1)));

@@ -70,7 +70,7 @@ public final class FaceTest {
 
     private static void inside(Class<?> coder) {
         Class<?>[] classes = coder.getDeclaredClasses();
-        CHECK.same("at most eleven classes inside", classes.length <= 11, true);
+        CHECK.same("at most twelve classes inside", classes.length <= 12, true);
         for (Class<?> one : classes) {
             int modifiers = one.getModifiers();
             boolean hidden = !Modifier.isPublic(modifiers) && !Modifier.isProtected(modifiers);

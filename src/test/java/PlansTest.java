@@ -163,6 +163,7 @@ public final class PlansTest {
         best(c, THREE, 2, 64, 34, THREE_BEST);
         best(c, "aaaaa", 2, 2, 17, "L M2,1 M2,1");
         best(c, "a".repeat(64), 3, 64, 9 + 2 + 1 + 11, "L M63,1");
+        best(c, "abcQbcdefRabcdef", 3, 64, 111, "L L L L L L L L L L L M5,7");
         best(c, "abaabaaa", 2, 2, 40, "L L L M2,3 A1,3 M2,1");
         best(c, "abbbaaab", 2, 64, 42, "L L M2,1 L A1,1 M2,6");
         best(c, "aaaaaa", 2, 3, 18, "L M2,1 A3,1");
@@ -219,6 +220,7 @@ public final class PlansTest {
         greedy(c, THREE, 2, 64, THREE_GREEDY);
         greedy(c, "abcQbcdefRabcdef", 3, 64, "L L L L L L L L L L M3,10 M3,7");
         greedy(c, "xyabcdxyQabcd", 2, 64, "L L L L L L M2,6 L M4,7");
+        greedy(c, "abbbaaba", 2, 64, "L L M2,1 L M2,5 L");
         greedy(c, "a".repeat(64), 2, 64, "L M63,1");
         greedy(c, Coders.different(64), 2, 64, "L ".repeat(64).trim());
     }
@@ -304,6 +306,8 @@ public final class PlansTest {
         lazy(c, "abbaba", "L L L M2,3 L");
         lazy(c, "aaabaaaa", "L M2,1 L M3,4 L");
         lazy(c, "aabbbaaa", "L L L M2,1 M2,5 L");
+        lazy(c, "aabaaaa", "L L L L M3,1");
+        lazy(c, "aabbbaaaa", "L L L M2,1 L A3,1");
         plan(c, Coders.Way.LAZY, "aabaaaa", 2, 2, "L L L M2,3 M2,1");
         plan(c, Coders.Way.LAZY, "aabaaaa", 3, 64, "L L L L M3,1");
     }

@@ -236,7 +236,9 @@ public final class ReadingTest {
     // ---- promises
 
     private static void reads(Check c) {
-        MatchCoder x = Coders.middle();
+        MatchCoder x = Coders.text("abcdefghabcXefgh");
+        x.best();
+        x.write();
         String tokens = Coders.tokensOf(x);
         String row = Coders.bitsOf(x);
         x.read();

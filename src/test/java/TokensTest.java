@@ -116,10 +116,12 @@ public final class TokensTest {
 
     private static void matchMakesPresent(Check c) {
         c.same("AGAIN behind a MATCH", read(A + B + Coders.match(2, 2) + Coders.again(2)), "0: 1 2 1 2 1 2");
-        c.same("AGAIN behind another MATCH", read(A + B + Coders.match(2, 2) + Coders.match(1, 2) + Coders.again(1)),
-                "0: 1 2 1 2 2 2 2");
-        c.same("AGAIN behind a farther MATCH", read(A + B + Coders.match(1, 2) + Coders.match(4, 2) + Coders.again(2)),
-                "0: 1 2 2 2 1 2 2 2");
+        c.same("AGAIN behind a nearer MATCH", read(A + B + Coders.match(2, 3) + Coders.match(1, 2) + Coders.again(1)),
+                "0: 1 2 1 2 1 1 1 1");
+        c.same("and a LITERAL", read(A + B + Coders.match(2, 2) + Coders.match(1, 2) + A + Coders.again(1)),
+                "0: 1 2 1 2 2 2 1 1");
+        c.same("AGAIN behind a farther MATCH", read(A + B + Coders.match(1, 2) + Coders.match(4, 3) + Coders.again(2)),
+                "0: 1 2 2 2 1 2 2 2 1");
         allWays(c, "two distances", "abcabcxyzuvwxyz!vw", 3, 64, "L L L M3,3 L L L L L L M3,6 L A2,6");
     }
 
