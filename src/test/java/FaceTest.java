@@ -36,23 +36,29 @@ public final class FaceTest {
         CHECK.same("the number of constructors", constructors.length, 1);
         CHECK.same("the constructor", constructors[0].toString(), "public MatchCoder()");
         inside(coder);
+        for (Class<?> one : coder.getDeclaredClasses()) {
+            privateNames(one);
+        }
         CHECK.end();
     }
 
     private static void methods(Class<?> coder) {
         TreeSet<String> found = new TreeSet<>();
-        TreeSet<String> names = new TreeSet<>();
         for (Method method : coder.getDeclaredMethods()) {
             if (!Modifier.isPrivate(method.getModifiers())) {
                 found.add(signature(method));
-                names.add(method.getName());
                 CHECK.same(method.getName() + "'s modifiers", Modifier.toString(method.getModifiers()), "public");
             }
         }
         CHECK.same("the face", found, new TreeSet<>(Arrays.asList(FACE)));
-        for (Method method : coder.getDeclaredMethods()) {
+        privateNames(coder);
+    }
+
+    private static void privateNames(Class<?> one) {
+        for (Method method : one.getDeclaredMethods()) {
             if (Modifier.isPrivate(method.getModifiers())) {
-                CHECK.same(method.getName() + " is of the face", names.contains(method.getName()), false);
+                boolean ofFace = Arrays.stream(FACE).anyMatch(line -> line.contains(" " + method.getName() + "("));
+                CHECK.same(one.getSimpleName() + "." + method.getName() + " bears a name of the face", ofFace, false);
             }
         }
     }
